@@ -362,6 +362,9 @@ public final class HalfGates {
         int start = 0;
         int size = 0;
         int value = 0;
+        /** Which NUMBER a WORD names, or NONE. */
+        int named = NONE;
+        boolean isIf = false;
 
         void append(int number) {
             for (int shift = 24; shift >= 0 && length < TAPE_BYTES; shift -= 8) {
@@ -384,6 +387,8 @@ public final class HalfGates {
             skipBlanks();
             start = next;
             value = 0;
+            named = NONE;
+            isIf = false;
             if (next >= end) {
                 kind = END;
             } else if (isLetter(bytes[next])) {
@@ -408,7 +413,12 @@ public final class HalfGates {
             while (next < end && isLetter(bytes[next])) {
                 next++;
             }
-            kind = next - start <= MOST_LETTERS ? WORD : NO_TOKEN;
+            int letters = next - start;
+            kind = letters <= MOST_LETTERS ? WORD : NO_TOKEN;
+            if (letters == 1 && bytes[start] < 'a' + NUMBERS) {
+                named = bytes[start] - 'a';
+            }
+            isIf = letters == 2 && bytes[start] == 'i' && bytes[start + 1] == 'f';
         }
 
         private void takeWhole() {
@@ -421,15 +431,6 @@ public final class HalfGates {
 
         int letter(int i) {
             return i >= 0 && i < size ? bytes[start + i] : NONE;
-        }
-
-        boolean isIf() {
-            return kind == WORD && size == 2 && letter(0) == 'i' && letter(1) == 'f';
-        }
-
-        int numberNamed() {
-            boolean named = kind == WORD && size == 1 && letter(0) < 'a' + NUMBERS;
-            return named ? letter(0) - 'a' : NONE;
         }
 
         boolean isSign() {
@@ -655,8 +656,7 @@ public final class HalfGates {
         }
 
         private int meetLine() {
-            boolean isIf = tape.isIf();
-            int why = isIf ? 0 : faultOfName();
+            int why = tape.isIf ? 0 : faultOfName();
             if (why != 0) {
                 return why;
             }
@@ -664,20 +664,20 @@ public final class HalfGates {
                 return MANY;
             }
             guard = NONE;
-            if (isIf) {
+            if (tape.isIf) {
                 return meetOp(IF_NAME);
             }
             return meetLineName();
         }
 
         private int meetIfName() {
-            guard = tape.numberNamed();
+            guard = tape.named;
             state = LINE_NAME;
             return faultOfName();
         }
 
         private int meetLineName() {
-            target = tape.numberNamed();
+            target = tape.named;
             state = EQUALS;
             return faultOfName();
         }
@@ -686,7 +686,7 @@ public final class HalfGates {
             if (tape.kind != WORD) {
                 return FORM;
             }
-            return tape.numberNamed() == NONE ? NO_NAME : 0;
+            return tape.named == NONE ? NO_NAME : 0;
         }
 
         private int meetOp(int then) {
@@ -744,7 +744,7 @@ public final class HalfGates {
         private int meetAskedName() {
             int why = faultOfName();
             if (why == 0) {
-                spare.addStep(NUMBER, tape.numberNamed());
+                spare.addStep(NUMBER, tape.named);
                 endPart();
             }
             return why;
