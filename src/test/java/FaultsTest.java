@@ -7,6 +7,7 @@ public final class FaultsTest {
         wholes();
         many();
         good();
+        firstBytes();
         Check.end();
     }
 
@@ -175,5 +176,30 @@ public final class FaultsTest {
         // WORDS and WHOLES part from one another by themselves
         bad("x1{ifa b=1}", 2, 3);
         bad("x1{a=1b}", 1, 6);
+    }
+
+    /** Only the first n bytes are read, though they end within a WORD or a WHOLE. */
+    private static void firstBytes() {
+        HalfGates desk = new HalfGates();
+        // "x 11{a=1}yyyyyyyyyyy"
+        int[] f = {0x78203131, 0x7B613D31, 0x7D797979, 0x79797979, 0x79797979};
+        int[][] want = {{1, 1}, {3, 3}, {10, 10}, {17, 17}, {18, 9}};
+        for (int[] w : want) {
+            desk.feed(f[0], f[1], f[2], f[3], f[4]);
+            Check.due("program " + w[0], desk.program(w[0]), -1);
+            Check.due("fault of " + w[0] + " bytes", desk.fault(), 1);
+            Check.due("where of " + w[0] + " bytes", desk.where(), w[1]);
+        }
+        desk.feed(f[0], f[1], f[2], f[3], f[4]);
+        Check.due("program 9", desk.program(9), 1);
+        // 600 bytes that are each a TOKEN: 3 BLOCKS of 163, one of 103 and 8 times ~
+        String line = "a=((((((((b))))))))";
+        String lines = (line + ";").repeat(7) + line + "}";
+        String most = "x1{" + lines + "y1{" + lines + "z1{" + lines + "u1{" + (line + ";").repeat(4) + "a=~~~~~~~~((((((((b))))))))}";
+        Check.due("bytes", most.length(), 600);
+        fine(most, 4);
+        bad(most.substring(0, 599) + "+", 1, 600);
+        bad("(".repeat(600), 1, 0);
+        bad("x1{a=1;" + " ".repeat(593), 1, 600);
     }
 }

@@ -23,6 +23,7 @@ public final class PromisesTest {
         turn();
         edges();
         edgesAlike();
+        fullSize();
         run();
         runSigns();
         once();
@@ -387,12 +388,58 @@ public final class PromisesTest {
         free.set(8, 40, 0);
         due("edges, the circuit better", free.edges(), 1);
         due("edge 0", free.edge(0), 1);
+        // as quick with fewer gates, but more bits
+        HalfGates fewer = Check.desk("x 2{a=a-1}y 2{b=b+1}");
+        fewer.set(8, 40, 0);
+        due("edges, one with fewer gates", fewer.edges(), 3);
+        due("edge 1", fewer.edge(1), 2);
+        due("edge 2", fewer.edge(2), 3);
+        // more bits, yet fewer gates and more ticks: by GATES it stands ahead
+        HalfGates ahead = Check.desk("x 3{a=a-1}y 2{b=b+1}");
+        ahead.set(8, 40, 0);
+        due("edges, all four", ahead.edges(), 4);
+        due("edge 1", ahead.edge(1), 2);
+        due("edge 2", ahead.edge(2), 1);
+        due("edge 3", ahead.edge(3), 3);
         // one circuit alone is dear in gates and slower than another: beside that one it is no edge
         HalfGates beside = Check.desk("x 1{a=a*a}y 9{b=b+b+b}");
         beside.set(8, 40, 0);
         due("edges, one left out", beside.edges(), 3);
         due("edge 1", beside.edge(1), 2);
         due("edge 2", beside.edge(2), 3);
+    }
+
+    /** Twelve blocks of eight lines each, and twelve blocks alike. */
+    private static void fullSize() {
+        StringBuilder lines = new StringBuilder();
+        StringBuilder alike = new StringBuilder();
+        for (int b = 0; b < 12; b++) {
+            char name = (char) ('a' + b);
+            lines.append(name).append("1{a=1;b=2;c=3;d=4;e=5;f=6;g=7;h=a+").append(b).append('}');
+            alike.append(name).append("2{a=a+1}");
+        }
+        HalfGates full = Check.desk(lines.toString());
+        due("lines of the last", full.block(11, 1), 8);
+        due("ticks 0 of the full one", full.ticks(0), 12 * 9);
+        due("ticks 4095 of the full one", full.ticks(4095), 12 * 2 + 8 * 3);
+        due("moves ahead of the last", full.moves(4095, 11), 0);
+        due("moves at the end", full.moves(4095, 12), 255);
+        due("moves 13", full.moves(4095, 13), -1);
+        due("gates 4095 of the full one", full.gates(4095), 12 * 40);
+        due("ticks 4096", full.ticks(4096), -1);
+        due("run 4095", full.run(4095), 48);
+        due("h behind it", full.get(7), 12);
+        HalfGates twelve = Check.desk(alike.toString());
+        twelve.set(8, 40, 0);
+        due("edges of twelve alike", twelve.edges(), 13);
+        for (int i = 0; i <= 12; i++) {
+            due("edge " + i + " of twelve alike", twelve.edge(i), (1 << i) - 1);
+            due("quickest " + i, twelve.quickest(40 * i), (1 << i) - 1);
+            due("fewest " + i, twelve.fewest(48 - i), 40 * i);
+        }
+        due("fewest 35", twelve.fewest(35), -2);
+        due("run of twelve alike", twelve.run(4095), 36);
+        due("a behind it", twelve.get(0), 24);
     }
 
     private static void run() {
@@ -496,6 +543,9 @@ public final class PromisesTest {
         dueTrouble(desk, "still 0", desk.still(0), 0, 0);
         dueTrouble(desk, "still 1", desk.still(1), 1, 0);
         due("get 0", desk.get(0), 7);
+        desk.put(7, 0);
+        due("still 0, a alone changing", desk.still(0), 0);
+        due("still of h alone", Check.desk("x 1{h=1}").still(0), 0);
         dueTrouble(desk, "changes 2 0", desk.changes(2, 0), -1, 1);
         dueTrouble(desk, "changes -1 0", desk.changes(-1, 0), -1, 1);
         dueTrouble(desk, "changes 0 8", desk.changes(0, 8), -1, 1);
