@@ -12,22 +12,11 @@ public final class FaultsTest {
     }
 
     private static void bad(String text, int fault, int place) {
-        HalfGates desk = new HalfGates();
-        Check.due("program of [" + text + "]", Check.tell(desk, text), -1);
-        Check.due("trouble after [" + text + "]", desk.trouble(), 3);
-        Check.due("fault of [" + text + "]", desk.fault(), fault);
-        Check.due("where of [" + text + "]", desk.where(), place);
-        Check.due("count(3) after [" + text + "]", desk.count(3), 0);
-        Check.due("count(4) after [" + text + "]", desk.count(4), 0);
+        Check.bad(text, fault, place);
     }
 
     private static void fine(String text, int blocks) {
-        HalfGates desk = new HalfGates();
-        Check.due("program of [" + text + "]", Check.tell(desk, text), blocks);
-        Check.due("trouble after [" + text + "]", desk.trouble(), 0);
-        Check.due("fault of [" + text + "]", desk.fault(), 0);
-        Check.due("where of [" + text + "]", desk.where(), -1);
-        Check.due("count(3) after [" + text + "]", desk.count(3), blocks);
+        Check.fine(text, blocks);
     }
 
     private static void form() {
@@ -121,11 +110,7 @@ public final class FaultsTest {
     }
 
     private static String blocks(int n) {
-        StringBuilder s = new StringBuilder();
-        for (int i = 0; i < n; i++) {
-            s.append((char) ('a' + i)).append(" 1{a=1}");
-        }
-        return s.toString();
+        return Check.blocks(n);
     }
 
     private static void many() {
