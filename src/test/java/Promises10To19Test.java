@@ -247,6 +247,68 @@ public final class Promises10To19Test {
         dueEdges(alike.toString(), 0, 1, 3, 7, 15, 31, 63, 127, 255, 511, 1023, 2047, 4095);
     }
 
+    /**
+     * Twelve BLOCKS: at WIDTH 16 and PER 1,000, without cost of MOVE, each has more GATES, and spares more
+     * TICKS as a circuit, than all ahead of it together. So no CUT is better than another: all 4,096 are edges.
+     * By sixteens GATES are 1, 2, 4, 10, 18, 36, 96, 192, 384, 768, 1536, 3072; spared TICKS are
+     * 1, 3, 7, 13, 26, 53, 111, 223, 447, 895, 1798, 3604.
+     */
+    private static final String[] GROWING = {"a2{a=~b}", "b2{a=~~b}", "c2{a=~~~~b}", "d7{a=b+c+d}", "e9{a=b-c-d-e}",
+        "f9{a=b-b-b-b-b-b-b}", "g7{a=b*c}", "h7{a=b*c*d}", "i7{a=b*b*b*b*b}", "j7{a=b" + "*b".repeat(8) + "}",
+        "k7{a=b" + "*b".repeat(8) + ";c=b" + "*b".repeat(8) + "}",
+        "l7{a=b" + "*b".repeat(8) + ";c=b" + "*b".repeat(8) + ";d=b" + "*b".repeat(8) + ";e=b" + "*b".repeat(8) + "}"};
+
+    private static HalfGates growing(boolean backwards) {
+        StringBuilder text = new StringBuilder();
+        for (int b = 0; b < 12; b++) {
+            text.append(GROWING[backwards ? 11 - b : b]);
+        }
+        HalfGates desk = Check.desk(text.toString());
+        desk.set(16, 1000, 0);
+        return desk;
+    }
+
+    /** The bits of a CUT the other way round. */
+    private static int turned(int cut) {
+        return Integer.reverse(cut) >>> 20;
+    }
+
+    @Says(at = "Promise 18", words = "How many CUTS there are beside which no other one has as few TICKS and as few GATES, and less of one")
+    static void edgesBeingAllTheCutsOfTwelveBlocks() {
+        HalfGates desk = growing(false);
+        due("edges", desk.edges(), 4096);
+        HalfGates back = growing(true);
+        due("edges, backwards", back.edges(), 4096);
+        for (int i = 0; i < 4096; i += i < 8 || i > 4080 ? 1 : 17) {
+            due("edge " + i, desk.edge(i), i);
+            due("edge " + i + ", backwards", back.edge(i), turned(i));
+        }
+        due("edge 4095", desk.edge(4095), 4095);
+        due("edge 4096", desk.edge(4096), -1);
+        due("edge 4096, backwards", back.edge(4096), -1);
+        due("edge -1", desk.edge(-1), -1);
+    }
+
+    @Says(at = "Promise 15", words = "QUICKEST within so many GATES (0 .. 1,000,000): its bits;")
+    static void quickestOfAllTheCutsOfTwelveBlocks() {
+        int[][] want = {{0, 0}, {15, 0}, {16, 1}, {31, 1}, {32, 2}, {47, 2}, {48, 3}, {63, 3}, {64, 4}, {112, 7}, {159, 7}, {160, 8},
+            {49151, 2047}, {49152, 2048}, {97903, 4094}, {97904, 4095}, {1000000, 4095}};
+        HalfGates desk = growing(false);
+        HalfGates back = growing(true);
+        for (int[] w : want) {
+            due("quickest " + w[0], desk.quickest(w[0]), w[1]);
+            due("quickest " + w[0] + ", backwards", back.quickest(w[0]), turned(w[1]));
+        }
+        int code = desk.ticks(0);
+        due("the most that can be spared", code - desk.ticks(4095), 7181);
+        int[][] fewest = {{0, 0}, {1, 16}, {2, 32}, {3, 32}, {4, 48}, {5, 64}, {7, 64}, {8, 80}, {3577, 48752}, {3578, 49152}, {3604, 49152},
+            {3605, 49168}, {7180, 97904 - 16}, {7181, 97904}, {7182, -2}};
+        for (int[] f : fewest) {
+            due("fewest with " + f[0] + " spared", desk.fewest(code - f[0]), f[1]);
+            due("fewest with " + f[0] + " spared, backwards", back.fewest(code - f[0]), f[1]);
+        }
+    }
+
     @Says(at = "Promise 18", words = "(of those with both alike the one with the least bits alone);")
     static void edgesOfBothAlikeTheLeastBitsAlone() {
         dueEdges("x2{a=a+1}y2{b=b+1}", 0, 1, 3);
