@@ -21,11 +21,12 @@ public final class FaceTest {
         "int turn(int,int)", "int edges()", "int edge(int)", "int run(int)", "boolean once(int,boolean)",
         "int changes(int,int)", "int still(int)", "int name(int,int)", "int count(int)", "int trouble()"));
 
-    public static void main(String[] args) throws IOException {
+    public static void main(String[] args) throws IOException, IllegalAccessException {
         members();
         nested();
         source();
         noNewObjects();
+        room();
         Check.end();
     }
 
@@ -110,6 +111,32 @@ public final class FaceTest {
         for (String line : Files.readAllLines(Path.of("src/main/java/HalfGates.java"))) {
             if (line.contains("new ") && !line.contains("throw new")) {
                 Check.due("made in a field: " + line, line.matches("\\s+(private )?(final )?[A-Za-z\\[\\]]+ \\w+ = new .*;"), true);
+            }
+        }
+    }
+
+    /** A run has room for some 7.3 million fields and elements in all: a desk is to take a small part of it. */
+    private static void room() throws IllegalAccessException {
+        int[] found = new int[2];
+        count(new HalfGates(), found);
+        Check.due("objects and arrays of a desk, at most 100 (" + found[0] + ")", found[0] <= 100, true);
+        Check.due("fields and elements of a desk, at most 30,000 (" + found[1] + ")", found[1] <= 30000, true);
+    }
+
+    /** No two fields hold the same object, so each is met once. */
+    private static void count(Object of, int[] found) throws IllegalAccessException {
+        found[0]++;
+        if (of instanceof int[] row) {
+            found[1] += row.length;
+            return;
+        }
+        for (Field f : of.getClass().getDeclaredFields()) {
+            if (!Modifier.isStatic(f.getModifiers())) {
+                found[1]++;
+                f.setAccessible(true);
+                if (!f.getType().isPrimitive()) {
+                    count(f.get(of), found);
+                }
             }
         }
     }
